@@ -37,13 +37,13 @@ public final class FjordHaul {
 
     public FjordHaul() {
         tape = new byte[TAPE_BYTES];
-        reader = new Reader();
         tapeLength = 0;
         faultAt = -1;
         road = new Road();
         plan = new Plan();
         spareRoad = new Road();
         sparePlan = new Plan();
+        reader = new Reader(spareRoad, sparePlan);
     }
 
     // ---- the language
@@ -454,10 +454,10 @@ public final class FjordHaul {
         private int flaw;
         private int flawAt;
 
-        Reader() {
+        Reader(Road firstRoad, Plan firstPlan) {
             tokens = new Tokens();
-            road = new Road();
-            plan = new Plan();
+            road = firstRoad;
+            plan = firstPlan;
             next = 0;
             broken = false;
             brokenAt = -1;

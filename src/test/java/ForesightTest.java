@@ -68,6 +68,18 @@ public final class ForesightTest {
         checks.due("all that are fallen then", x.foresee(120, 1), 2);
         checks.due("only what breaks in them", x.foresee(120, 2), 0);
         checks.due("pile then", x.foresee(1, 3), 40);
+        // The horse is tired by 8 and rests in every other hour; if it were not, it would come two hours earlier.
+        FjordHaul tired = Checks.taught("stretch s long 5 slope 0 frost 0;horse h pull 36 links 1 iron 99;log a weight 32;haul h with 32;");
+        tired.pass(3);
+        checks.due("tired", tired.horse(0, 8), 8);
+        checks.due("5 hours are not enough", tired.foresee(5, 0), 0);
+        checks.due("6 are", tired.foresee(6, 0), 32);
+        checks.due("as it comes", tired.pass(5), 0);
+        checks.due("as it comes in the last", tired.pass(1), 32);
+        FjordHaul cold = Checks.taught("stretch s long 1 slope 0 frost 0;horse h pull 14 links 1 iron 99;log a weight 16;haul h with 16;");
+        cold.setWeather(2);
+        checks.due("the weather makes the frost", cold.foresee(2, 0), 16);
+        checks.due("and lets it arrive", cold.arrives(0), 2);
     }
 
     private static void advise() {
@@ -101,6 +113,11 @@ public final class ForesightTest {
         FjordHaul same = Checks.taught("stretch s long 1 slope 0 frost 0;horse h pull 99 links 1 iron 20;horse g pull 99 links 1 iron 20;"
                 + "log a weight 30;log b weight 30;haul h with 30;haul g with 30;");
         checks.due("of several the first", same.choose(9), 0);
+        for (int iron = 18; iron <= 22; iron++) {
+            FjordHaul exact = Checks.taught("stretch s long 1 slope 0 frost 0;horse h pull 99 links 1 iron " + iron
+                    + ";log a weight 30;haul h with 30;");
+            checks.due("10 more than " + iron, exact.choose(9), iron < 20 ? -1 : 0);
+        }
         FjordHaul over = Checks.taught("stretch s long 1 slope 9 frost 0;horse h pull 99 links 1 iron 95;log a weight 55;haul h with 55;");
         checks.due("an iron of 105 holds 104, but the pull does not", over.choose(9), -1);
         FjordHaul much = Checks.taught("stretch s long 1 slope 8 frost 0;stretch t long 1 slope 0 frost 0;"
@@ -113,6 +130,9 @@ public final class ForesightTest {
         checks.dueDouble("none", x.mean(), 0.0);
         x.pass(3);
         checks.dueDouble("two", x.mean(), 8.5);
+        FjordHaul one = Checks.taught(TRIPS.replace("log c weight 7;", ""));
+        one.pass(3);
+        checks.dueDouble("one", one.mean(), 10.0);
         x.pass(5);
         checks.dueDouble("three", x.mean(), 37.0 / 3);
     }

@@ -11,10 +11,12 @@ public final class LanguageTest {
         trim();
         teachReplaces();
         teachKeepsHourAndWeather();
+        teachAgainAndAgain();
         wrongListChangesNothing();
         rightLists();
         wrongTokens();
         longTokens();
+        namesThatDiffer();
         depth();
         tokenLimit();
         wrongTokenComesFirst();
@@ -128,8 +130,35 @@ public final class LanguageTest {
         checks.due("errorAt stays with feed", x.errorAt(), 23);
         x.trim(0);
         checks.due("the hauls stay", x.pass(8), 1);
-        x.teach();
+        checks.due("right behind wrong", Checks.teach(x, "log b weight 1;"), 0);
         checks.due("errorAt without an error", x.errorAt(), -1);
+        checks.due("wrong number", Checks.teach(x, "log b weight 0;"), 5);
+        checks.due("right behind a wrong number", x.teach(), 0);
+        checks.due("errorAt without an error again", x.errorAt(), -1);
+    }
+
+    /** What an earlier list left may not be seen in a later one. */
+    private static void teachAgainAndAgain() {
+        String text = "stretch s long 2 slope 5 frost 0;horse h pull 99 links 9 iron 30;horse g pull 99 links 9 iron 99;"
+                + "log a weight 20;log b weight 40;log c weight 9;haul g with 40;haul h with 50;wait h at s when hour < 0;";
+        FjordHaul x = Checks.taught(text);
+        long fresh = x.digest();
+        for (int i = 0; i < 6; i++) {
+            int passed = 2 + i % 3;
+            x.pass(passed);
+            if (i % 2 == 0) {
+                checks.due("a wrong one between", Checks.teach(x, text + "wait g at s when 1 < 2;haul g with 9;log a weight 1;"), 2);
+            }
+            checks.due("teach again " + i, Checks.teach(x, text), 0);
+            FjordHaul other = new FjordHaul();
+            other.pass(x.count(0));
+            checks.due("teach another " + i, Checks.teach(other, text), 0);
+            checks.due("as if new " + i, x.digest(), other.digest());
+        }
+        checks.isTrue("but for the hour", x.digest() != fresh);
+        checks.due("without hauls", Checks.teach(x, text.substring(0, text.indexOf("haul"))), 0);
+        checks.due("none are left", x.pass(20), 0);
+        checks.due("none is off", x.count(9), 0);
     }
 
     private static void right(String text) {
@@ -240,6 +269,22 @@ public final class LanguageTest {
         right(ROAD + "haul h with 999999when 1<2;");
         FjordHaul x = Checks.taught("log abcdefghij weight 1;log abcdefghi1 weight 2;log a weight 3;log a0 weight 4;");
         checks.due("names that begin alike", x.count(4), 4);
+    }
+
+    private static void namesThatDiffer() {
+        String signs = "abcdefghijklmnopqrstuvwxyz0123456789";
+        for (int i = 0; i < signs.length(); i++) {
+            for (int k = 0; k < signs.length(); k++) {
+                FjordHaul x = new FjordHaul();
+                String line = "log q" + signs.charAt(i) + " weight 1;";
+                int error = Checks.teach(x, line + "log q" + signs.charAt(k) + " weight 1;");
+                checks.due("names with " + signs.charAt(i) + " and " + signs.charAt(k), error, i == k ? 2 : 0);
+                checks.due("errorAt", x.errorAt(), i == k ? line.length() + 4 : -1);
+            }
+        }
+        right("log a weight 1;log aa weight 1;log aaa weight 1;log a0 weight 1;log a00 weight 1;log a0a weight 1;");
+        right("log z weight 1;log zzzzzzzzzz weight 1;log z999999999 weight 1;");
+        right("log z999999999 weight 1;log z999999998 weight 1;log y999999999 weight 1;");
     }
 
     private static void depth() {

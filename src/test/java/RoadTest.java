@@ -157,6 +157,13 @@ public final class RoadTest {
         holds(true, "max(3, 2) = 3");
         holds(true, "min(-3, 2) - max(-4, -5) = 1");
         holds(true, "max(1 + 1, 3 - 2) * 5 = 10");
+        holds(false, "2 + 3 = 6");
+        holds(false, "2 - 3 = 1");
+        holds(false, "2 * 3 = 5");
+        holds(false, "7 / 2 = 4");
+        holds(false, "min(2, 3) = 3");
+        holds(false, "max(2, 3) = 2");
+        holds(false, "1 = -1");
         holds(true, "999999 * 999999 = 0 - (729379 * 1000 + 967)");
         holds(true, "65536 * 32768 < 0");
         holds(true, "65536 * 32768 - 1 > 0");
@@ -504,6 +511,17 @@ public final class RoadTest {
         y.pass(3);
         facts(y, "the same way needs no bell", 0, 1, 1, 0);
         facts(y, "both go", 1, 1, 1, 0);
+        // g comes to the second stretch in hour 3, where f is on the same way, and e is on its way back on the third.
+        FjordHaul z = Checks.taught(road("1 0 0,3 0 0,3 0 0", "horse g pull 99 links 1 iron 99 bell",
+                "horse f pull 99 links 1 iron 99", "horse e pull 99 links 1 iron 99 bell", "log a weight 8", "log b weight 8",
+                "log c weight 8", "haul e with 8", "haul f with 8 when hour = 6", "haul g with 8 when hour = 8"));
+        z.pass(9);
+        facts(z, "f on the second", 1, 1, 1, 1);
+        facts(z, "e on its way back on the third", 2, 2, 0, 1);
+        z.pass(1);
+        facts(z, "g comes", 0, 1, 1, 0);
+        facts(z, "f on the same way goes on", 1, 1, 1, 2);
+        facts(z, "e elsewhere goes on", 2, 2, 0, 2);
     }
 
     private static void forge() {
