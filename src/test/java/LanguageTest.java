@@ -159,6 +159,11 @@ public final class LanguageTest {
         checks.due("without hauls", Checks.teach(x, text.substring(0, text.indexOf("haul"))), 0);
         checks.due("none are left", x.pass(20), 0);
         checks.due("none is off", x.count(9), 0);
+        FjordHaul y = Checks.taught(ROAD + "log a weight 1;haul h with 1;wait h at s when 0 < 1;");
+        for (int i = 0; i < 40; i++) {
+            Checks.teach(y, ROAD + "log a weight 1;haul h with 1 + 1 * (2 - 1) - 1 / (2 - 1) when hour >= 0 and not [hour < 0 or pile < 1];");
+        }
+        checks.due("no wait is left, and the 40th is read as the first", y.pass(2), 1);
     }
 
     private static void right(String text) {
@@ -302,6 +307,8 @@ public final class LanguageTest {
         wrongAtMark(1, ROAD + "haul h with --------~(1);");
         wrongAtMark(1, ROAD + "haul h with ((((((((min~(1,2)))))))));");
         wrongAtMark(1, ROAD + "haul h with min(1,min(1,min(1,min(1,min(1,min(1,min(1,min(1,~-1))))))));");
+        wrongAtMark(1, ROAD + "haul h with min((((((((~(1)))))))),2);");
+        wrongAtMark(1, ROAD + "haul h with max(2,(((((((~(1)))))))));");
         wrongAtMark(1, ROAD + "haul h with 1 when [[[[[[[[~[1<2]]]]]]]]];");
         wrongAtMark(1, ROAD + "haul h with 1 when not not not not not not not not ~not 1<2;");
         wrongAtMark(1, ROAD + "haul h with 1 when not not not not not not not not ~[1<2];");
