@@ -166,38 +166,20 @@ public final class LanguageTest {
         checks.due("no wait is left, and the 40th is read as the first", y.pass(2), 1);
     }
 
-    private static void right(String text) {
-        FjordHaul x = new FjordHaul();
-        checks.due(text, Checks.teach(x, text), 0);
-        checks.due("errorAt of " + text, x.errorAt(), -1);
-    }
-
-    private static void wrong(String text, int error, int at) {
-        FjordHaul x = new FjordHaul();
-        checks.due(text, Checks.teach(x, text), error);
-        checks.due("errorAt of " + text, x.errorAt(), at);
-        checks.due("tape behind " + text, x.count(12), 0);
-    }
-
-    /** The error is at the first sign of the mark in the text, which is no part of the list. */
-    private static void wrongAtMark(int error, String text) {
-        wrong(text.replace("~", ""), error, text.indexOf('~'));
-    }
-
     private static void haul(String rest) {
-        right(ROAD + "haul h with " + rest + ";");
+        checks.right(ROAD + "haul h with " + rest + ";");
     }
 
     private static void rightLists() {
-        right("");
-        right(" \n \n");
-        right("\nlog\n\na weight\n1\n;\n");
-        right("log a weight 1;log b weight 60;");
-        right("stretch a long 9 slope-9 frost 9;stretch a1b2 long 1 slope 0 frost 0;stretch c long 1 slope - 0 frost 0;");
-        right("horse h pull 1links 1iron 1bell;horse i pull 99 links 9 iron 99;");
-        right("stretch same long 1 slope 0 frost 0;horse same pull 1 links 1 iron 1;log same weight 1;"
+        checks.right("");
+        checks.right(" \n \n");
+        checks.right("\nlog\n\na weight\n1\n;\n");
+        checks.right("log a weight 1;log b weight 60;");
+        checks.right("stretch a long 9 slope-9 frost 9;stretch a1b2 long 1 slope 0 frost 0;stretch c long 1 slope - 0 frost 0;");
+        checks.right("horse h pull 1links 1iron 1bell;horse i pull 99 links 9 iron 99;");
+        checks.right("stretch same long 1 slope 0 frost 0;horse same pull 1 links 1 iron 1;log same weight 1;"
                 + "haul same with frost same + load same;wait same at same when fallen same = 0;");
-        right("log longer weight 1;log at1 weight 1;log hours weight 1;");
+        checks.right("log longer weight 1;log at1 weight 1;log hours weight 1;");
         haul("hour+weather-pile*raft/tired h+load h+links h+frost s+fallen s");
         haul("999999 when 1<2 and 2>1 and 1=1 and 1<=1 and 1>=1 or not not[1<2 or[1<2]]");
         haul("--(-1)-min(1,max(2,3)*4)");
@@ -206,72 +188,72 @@ public final class LanguageTest {
     }
 
     private static void wrongTokens() {
-        wrongAtMark(1, "~;");
-        wrongAtMark(1, "log a weight 1;~;");
-        wrongAtMark(1, "~name a weight 1;");
-        wrongAtMark(1, "log a weight 1 ~");
-        wrongAtMark(1, "stretch~");
-        wrongAtMark(1, "stretch \n ~");
-        wrongAtMark(1, "stretch ~long long 1 slope 0 frost 0;");
-        wrongAtMark(1, "log ~min weight 1;");
-        wrongAtMark(1, "log ~1 weight 1;");
-        wrongAtMark(1, "log ~1a weight 1;");
-        wrongAtMark(1, "stretch a long ~-1 slope 0 frost 0;");
-        wrongAtMark(1, "stretch a long 1 slope -~-1 frost 0;");
-        wrongAtMark(1, "stretch a long 1 slope ~+1 frost 0;");
-        wrongAtMark(1, "stretch a long 1 ~frost 0 slope 0;");
-        wrongAtMark(1, "horse h ~links 1 pull 1 iron 1;");
-        wrongAtMark(1, "horse h pull 1 links 1 iron 1 bell ~bell;");
-        wrongAtMark(1, "log a weight 1~,log b weight 1;");
+        checks.wrongAtMark(1, "~;");
+        checks.wrongAtMark(1, "log a weight 1;~;");
+        checks.wrongAtMark(1, "~name a weight 1;");
+        checks.wrongAtMark(1, "log a weight 1 ~");
+        checks.wrongAtMark(1, "stretch~");
+        checks.wrongAtMark(1, "stretch \n ~");
+        checks.wrongAtMark(1, "stretch ~long long 1 slope 0 frost 0;");
+        checks.wrongAtMark(1, "log ~min weight 1;");
+        checks.wrongAtMark(1, "log ~1 weight 1;");
+        checks.wrongAtMark(1, "log ~1a weight 1;");
+        checks.wrongAtMark(1, "stretch a long ~-1 slope 0 frost 0;");
+        checks.wrongAtMark(1, "stretch a long 1 slope -~-1 frost 0;");
+        checks.wrongAtMark(1, "stretch a long 1 slope ~+1 frost 0;");
+        checks.wrongAtMark(1, "stretch a long 1 ~frost 0 slope 0;");
+        checks.wrongAtMark(1, "horse h ~links 1 pull 1 iron 1;");
+        checks.wrongAtMark(1, "horse h pull 1 links 1 iron 1 bell ~bell;");
+        checks.wrongAtMark(1, "log a weight 1~,log b weight 1;");
         for (char c : new char[] {'A', 'Z', '\t', '\r', 0, 31, 127, 128, 200, 255, '.', '_', '!', '{', '\'', '@', '`'}) {
-            wrongAtMark(1, "log a weight 1;~" + c);
-            wrongAtMark(1, "log a~" + c + " weight 1;");
+            checks.wrongAtMark(1, "log a weight 1;~" + c);
+            checks.wrongAtMark(1, "log a~" + c + " weight 1;");
         }
-        wrongAtMark(1, ROAD + "haul h ~1;");
-        wrongAtMark(1, ROAD + "haul h with ~;");
-        wrongAtMark(1, ROAD + "haul h with ~not 1 < 2;");
-        wrongAtMark(1, ROAD + "haul h with ~+1;");
-        wrongAtMark(1, ROAD + "haul h with 1 + ~* 2;");
-        wrongAtMark(1, ROAD + "haul h with ~h;");
-        wrongAtMark(1, ROAD + "haul h with load ~hour;");
-        wrongAtMark(1, ROAD + "haul h with ~iron h;");
-        wrongAtMark(1, ROAD + "haul h with min ~1;");
-        wrongAtMark(1, ROAD + "haul h with min(1~);");
-        wrongAtMark(1, ROAD + "haul h with max(1,2~,3);");
-        wrongAtMark(1, ROAD + "haul h with (1~;");
-        wrongAtMark(1, ROAD + "haul h with (~);");
-        wrongAtMark(1, ROAD + "haul h with 1~);");
-        wrongAtMark(1, ROAD + "haul h with ~[1];");
-        wrongAtMark(1, ROAD + "haul h with 1 ~< 2;");
-        wrongAtMark(1, ROAD + "haul h with 1 when 1~;");
-        wrongAtMark(1, ROAD + "haul h with 1 when 1 <~;");
-        wrongAtMark(1, ROAD + "haul h with 1 when 1 < ~= 2;");
-        wrongAtMark(1, ROAD + "haul h with 1 when 1 =~< 2;");
-        wrongAtMark(1, ROAD + "haul h with 1 when 1 < 2 ~< 3;");
-        wrongAtMark(1, ROAD + "haul h with 1 when (1 ~< 2);");
-        wrongAtMark(1, ROAD + "haul h with 1 when [1~];");
-        wrongAtMark(1, ROAD + "haul h with 1 when [1 < 2~;");
-        wrongAtMark(1, ROAD + "haul h with 1 when 1 < 2~];");
-        wrongAtMark(1, ROAD + "haul h with 1 when 1 < 2 and ~;");
-        wrongAtMark(1, ROAD + "haul h with 1 when 1 < 2 ~not 1 < 2;");
-        wrongAtMark(1, ROAD + "haul h with 1 when 1 < ~not 2;");
-        wrongAtMark(1, ROAD + "haul h with 1 when 1 < 2 ~when 1 < 2;");
-        wrongAtMark(1, ROAD + "wait h at s~;");
-        wrongAtMark(1, ROAD + "wait h ~when 1 < 2;");
-        wrongAtMark(1, ROAD + "wait h at ~1 when 1 < 2;");
-        wrongAtMark(1, ROAD + "wait h at s when ~");
+        checks.wrongAtMark(1, ROAD + "haul h ~1;");
+        checks.wrongAtMark(1, ROAD + "haul h with ~;");
+        checks.wrongAtMark(1, ROAD + "haul h with ~not 1 < 2;");
+        checks.wrongAtMark(1, ROAD + "haul h with ~+1;");
+        checks.wrongAtMark(1, ROAD + "haul h with 1 + ~* 2;");
+        checks.wrongAtMark(1, ROAD + "haul h with ~h;");
+        checks.wrongAtMark(1, ROAD + "haul h with load ~hour;");
+        checks.wrongAtMark(1, ROAD + "haul h with ~iron h;");
+        checks.wrongAtMark(1, ROAD + "haul h with min ~1;");
+        checks.wrongAtMark(1, ROAD + "haul h with min(1~);");
+        checks.wrongAtMark(1, ROAD + "haul h with max(1,2~,3);");
+        checks.wrongAtMark(1, ROAD + "haul h with (1~;");
+        checks.wrongAtMark(1, ROAD + "haul h with (~);");
+        checks.wrongAtMark(1, ROAD + "haul h with 1~);");
+        checks.wrongAtMark(1, ROAD + "haul h with ~[1];");
+        checks.wrongAtMark(1, ROAD + "haul h with 1 ~< 2;");
+        checks.wrongAtMark(1, ROAD + "haul h with 1 when 1~;");
+        checks.wrongAtMark(1, ROAD + "haul h with 1 when 1 <~;");
+        checks.wrongAtMark(1, ROAD + "haul h with 1 when 1 < ~= 2;");
+        checks.wrongAtMark(1, ROAD + "haul h with 1 when 1 =~< 2;");
+        checks.wrongAtMark(1, ROAD + "haul h with 1 when 1 < 2 ~< 3;");
+        checks.wrongAtMark(1, ROAD + "haul h with 1 when (1 ~< 2);");
+        checks.wrongAtMark(1, ROAD + "haul h with 1 when [1~];");
+        checks.wrongAtMark(1, ROAD + "haul h with 1 when [1 < 2~;");
+        checks.wrongAtMark(1, ROAD + "haul h with 1 when 1 < 2~];");
+        checks.wrongAtMark(1, ROAD + "haul h with 1 when 1 < 2 and ~;");
+        checks.wrongAtMark(1, ROAD + "haul h with 1 when 1 < 2 ~not 1 < 2;");
+        checks.wrongAtMark(1, ROAD + "haul h with 1 when 1 < ~not 2;");
+        checks.wrongAtMark(1, ROAD + "haul h with 1 when 1 < 2 ~when 1 < 2;");
+        checks.wrongAtMark(1, ROAD + "wait h at s~;");
+        checks.wrongAtMark(1, ROAD + "wait h ~when 1 < 2;");
+        checks.wrongAtMark(1, ROAD + "wait h at ~1 when 1 < 2;");
+        checks.wrongAtMark(1, ROAD + "wait h at s when ~");
     }
 
     private static void longTokens() {
-        right("log abcdefghij weight 1;");
-        right("log a123456789 weight 1;");
-        wrongAtMark(1, "log ~abcdefghijk weight 1;");
-        wrongAtMark(1, "log ~a1234567890 weight 1;");
-        wrongAtMark(1, "~stretchstretch a long 1 slope 0 frost 0;");
-        right("log a weight 000001;");
-        wrongAtMark(1, "log a weight ~0000001;");
-        wrongAtMark(1, ROAD + "haul h with ~1000000;");
-        right(ROAD + "haul h with 999999when 1<2;");
+        checks.right("log abcdefghij weight 1;");
+        checks.right("log a123456789 weight 1;");
+        checks.wrongAtMark(1, "log ~abcdefghijk weight 1;");
+        checks.wrongAtMark(1, "log ~a1234567890 weight 1;");
+        checks.wrongAtMark(1, "~stretchstretch a long 1 slope 0 frost 0;");
+        checks.right("log a weight 000001;");
+        checks.wrongAtMark(1, "log a weight ~0000001;");
+        checks.wrongAtMark(1, ROAD + "haul h with ~1000000;");
+        checks.right(ROAD + "haul h with 999999when 1<2;");
         FjordHaul x = Checks.taught("log abcdefghij weight 1;log abcdefghi1 weight 2;log a weight 3;log a0 weight 4;");
         checks.due("names that begin alike", x.count(4), 4);
     }
@@ -287,9 +269,9 @@ public final class LanguageTest {
                 checks.due("errorAt", x.errorAt(), i == k ? line.length() + 4 : -1);
             }
         }
-        right("log a weight 1;log aa weight 1;log aaa weight 1;log a0 weight 1;log a00 weight 1;log a0a weight 1;");
-        right("log z weight 1;log zzzzzzzzzz weight 1;log z999999999 weight 1;");
-        right("log z999999999 weight 1;log z999999998 weight 1;log y999999999 weight 1;");
+        checks.right("log a weight 1;log aa weight 1;log aaa weight 1;log a0 weight 1;log a00 weight 1;log a0a weight 1;");
+        checks.right("log z weight 1;log zzzzzzzzzz weight 1;log z999999999 weight 1;");
+        checks.right("log z999999999 weight 1;log z999999998 weight 1;log y999999999 weight 1;");
     }
 
     private static void depth() {
@@ -301,65 +283,65 @@ public final class LanguageTest {
         haul("1 when not[not[not[not[1<2]]]]");
         haul("1 when [[[[((((1))))<----2]]]] and [[[[[[[[1<2]]]]]]]]");
         haul("((((((((1-1))))))))-((((((((1))))))))");
-        wrongAtMark(1, ROAD + "haul h with ((((((((~(1)))))))));");
-        wrongAtMark(1, ROAD + "haul h with --------~-1;");
-        wrongAtMark(1, ROAD + "haul h with ((((((((~-1))))))));");
-        wrongAtMark(1, ROAD + "haul h with --------~(1);");
-        wrongAtMark(1, ROAD + "haul h with ((((((((min~(1,2)))))))));");
-        wrongAtMark(1, ROAD + "haul h with min(1,min(1,min(1,min(1,min(1,min(1,min(1,min(1,~-1))))))));");
-        wrongAtMark(1, ROAD + "haul h with min((((((((~(1)))))))),2);");
-        wrongAtMark(1, ROAD + "haul h with max(2,(((((((~(1)))))))));");
-        wrongAtMark(1, ROAD + "haul h with 1 when [[[[[[[[~[1<2]]]]]]]]];");
-        wrongAtMark(1, ROAD + "haul h with 1 when not not not not not not not not ~not 1<2;");
-        wrongAtMark(1, ROAD + "haul h with 1 when not not not not not not not not ~[1<2];");
-        wrongAtMark(1, ROAD + "haul h with 1 when [[[[not not not not 1 < 2 and 1 < ((((~(2)))))]]]];");
-        wrongAtMark(1, ROAD + "wait h at s when [[[[[[[[1<~-2]]]]]]]];");
+        checks.wrongAtMark(1, ROAD + "haul h with ((((((((~(1)))))))));");
+        checks.wrongAtMark(1, ROAD + "haul h with --------~-1;");
+        checks.wrongAtMark(1, ROAD + "haul h with ((((((((~-1))))))));");
+        checks.wrongAtMark(1, ROAD + "haul h with --------~(1);");
+        checks.wrongAtMark(1, ROAD + "haul h with ((((((((min~(1,2)))))))));");
+        checks.wrongAtMark(1, ROAD + "haul h with min(1,min(1,min(1,min(1,min(1,min(1,min(1,min(1,~-1))))))));");
+        checks.wrongAtMark(1, ROAD + "haul h with min((((((((~(1)))))))),2);");
+        checks.wrongAtMark(1, ROAD + "haul h with max(2,(((((((~(1)))))))));");
+        checks.wrongAtMark(1, ROAD + "haul h with 1 when [[[[[[[[~[1<2]]]]]]]]];");
+        checks.wrongAtMark(1, ROAD + "haul h with 1 when not not not not not not not not ~not 1<2;");
+        checks.wrongAtMark(1, ROAD + "haul h with 1 when not not not not not not not not ~[1<2];");
+        checks.wrongAtMark(1, ROAD + "haul h with 1 when [[[[not not not not 1 < 2 and 1 < ((((~(2)))))]]]];");
+        checks.wrongAtMark(1, ROAD + "wait h at s when [[[[[[[[1<~-2]]]]]]]];");
     }
 
     /** HORSE has 9 tokens, haul h with 1 and its ; 5: so 193 times +1 make 400. */
     private static void tokenLimit() {
         String text = HORSE + "haul h with 1" + "+1".repeat(193);
-        right(text + ";");
-        right(text + "; \n ");
-        wrong(text + ";;", 1, text.length() + 1);
-        wrong(text + "; log", 1, text.length() + 2);
-        wrong(text + ";?", 1, text.length() + 1);
-        wrong(text + "+1;", 1, text.length() + 1);
-        wrong(text + "+;", 1, text.length() + 1);
-        wrong(text + "-;", 1, text.length() + 1);
-        wrong(text, 1, text.length());
-        wrong(HORSE + "haul h with x" + "+1".repeat(192) + "+1;;", 1, HORSE.length() + 12);
+        checks.right(text + ";");
+        checks.right(text + "; \n ");
+        checks.wrong(text + ";;", 1, text.length() + 1);
+        checks.wrong(text + "; log", 1, text.length() + 2);
+        checks.wrong(text + ";?", 1, text.length() + 1);
+        checks.wrong(text + "+1;", 1, text.length() + 1);
+        checks.wrong(text + "+;", 1, text.length() + 1);
+        checks.wrong(text + "-;", 1, text.length() + 1);
+        checks.wrong(text, 1, text.length());
+        checks.wrong(HORSE + "haul h with x" + "+1".repeat(192) + "+1;;", 1, HORSE.length() + 12);
     }
 
     private static void wrongTokenComesFirst() {
-        wrongAtMark(1, "log a weight 0;log a weight 1; ~x");
-        wrongAtMark(1, "log a weight 0;log a weight 1; haul h with ~;");
-        wrongAtMark(1, "haul x with load y;wait x at y when 1 < ~;");
+        checks.wrongAtMark(1, "log a weight 0;log a weight 1; ~x");
+        checks.wrongAtMark(1, "log a weight 0;log a weight 1; haul h with ~;");
+        checks.wrongAtMark(1, "haul x with load y;wait x at y when 1 < ~;");
     }
 
     private static void namesToldTwice() {
-        wrongAtMark(2, "log a weight 1;log b weight 1;log ~a weight 1;");
-        wrongAtMark(2, HORSE + "horse ~h pull 1 links 1 iron 1;");
-        wrongAtMark(2, ROAD + "stretch ~s long 1 slope 0 frost 0;");
-        wrongAtMark(2, ROAD + "stretch ~s long 0 slope 0 frost 0;");
+        checks.wrongAtMark(2, "log a weight 1;log b weight 1;log ~a weight 1;");
+        checks.wrongAtMark(2, HORSE + "horse ~h pull 1 links 1 iron 1;");
+        checks.wrongAtMark(2, ROAD + "stretch ~s long 1 slope 0 frost 0;");
+        checks.wrongAtMark(2, ROAD + "stretch ~s long 0 slope 0 frost 0;");
     }
 
     private static void namesNotTold() {
-        wrongAtMark(3, "haul ~h with 1;" + HORSE);
-        wrongAtMark(3, ROAD + "haul ~s with 1;");
-        wrongAtMark(3, ROAD + "log l weight 1;haul ~l with 1;");
-        wrongAtMark(3, ROAD + "wait ~s at s when 1<2;");
-        wrongAtMark(3, ROAD + "wait h at ~h when 1<2;");
-        wrongAtMark(3, ROAD + "wait ~x at x when 1<2;");
+        checks.wrongAtMark(3, "haul ~h with 1;" + HORSE);
+        checks.wrongAtMark(3, ROAD + "haul ~s with 1;");
+        checks.wrongAtMark(3, ROAD + "log l weight 1;haul ~l with 1;");
+        checks.wrongAtMark(3, ROAD + "wait ~s at s when 1<2;");
+        checks.wrongAtMark(3, ROAD + "wait h at ~h when 1<2;");
+        checks.wrongAtMark(3, ROAD + "wait ~x at x when 1<2;");
         for (String word : new String[] {"tired", "load", "links"}) {
-            wrongAtMark(3, ROAD + "haul h with " + word + " ~s;");
-            wrongAtMark(3, ROAD + "haul h with 1 when 1 < 2 or 1 < " + word + " ~x;");
+            checks.wrongAtMark(3, ROAD + "haul h with " + word + " ~s;");
+            checks.wrongAtMark(3, ROAD + "haul h with 1 when 1 < 2 or 1 < " + word + " ~x;");
         }
         for (String word : new String[] {"frost", "fallen"}) {
-            wrongAtMark(3, ROAD + "haul h with " + word + " ~h;");
-            wrongAtMark(3, ROAD + "wait h at s when " + word + " ~x < 1;");
+            checks.wrongAtMark(3, ROAD + "haul h with " + word + " ~h;");
+            checks.wrongAtMark(3, ROAD + "wait h at s when " + word + " ~x < 1;");
         }
-        wrongAtMark(3, ROAD + "haul h with load ~i;horse i pull 1 links 1 iron 1;");
+        checks.wrongAtMark(3, ROAD + "haul h with load ~i;horse i pull 1 links 1 iron 1;");
     }
 
     private static String many(int number, String before, String behind) {
@@ -372,49 +354,49 @@ public final class LanguageTest {
 
     private static void tooMany() {
         String stretches = many(8, "stretch s", " long 1 slope 0 frost 0;");
-        right(stretches);
-        wrongAtMark(4, stretches + "stretch ~t long 1 slope 0 frost 0;");
-        wrongAtMark(2, stretches + "stretch ~s7 long 1 slope 0 frost 0;");
+        checks.right(stretches);
+        checks.wrongAtMark(4, stretches + "stretch ~t long 1 slope 0 frost 0;");
+        checks.wrongAtMark(2, stretches + "stretch ~s7 long 1 slope 0 frost 0;");
         String horses = many(6, "horse h", " pull 1 links 1 iron 1;");
-        right(horses);
-        wrongAtMark(4, horses + "horse ~i pull 1 links 1 iron 0;");
-        wrongAtMark(2, horses + "horse ~h0 pull 1 links 1 iron 1;");
+        checks.right(horses);
+        checks.wrongAtMark(4, horses + "horse ~i pull 1 links 1 iron 0;");
+        checks.wrongAtMark(2, horses + "horse ~h0 pull 1 links 1 iron 1;");
         String logs = many(20, "log l", " weight 1;");
-        right(logs);
-        wrongAtMark(4, logs + "log ~m weight 1;");
-        wrongAtMark(2, logs + "log ~l19 weight 1;");
+        checks.right(logs);
+        checks.wrongAtMark(4, logs + "log ~m weight 1;");
+        checks.wrongAtMark(2, logs + "log ~l19 weight 1;");
         String hauls = ROAD + "haul h with 1;".repeat(12);
-        right(hauls);
-        wrongAtMark(4, hauls + "~haul h with 1;");
-        wrongAtMark(4, hauls + "~haul x with load x;");
+        checks.right(hauls);
+        checks.wrongAtMark(4, hauls + "~haul h with 1;");
+        checks.wrongAtMark(4, hauls + "~haul x with load x;");
         String waits = ROAD + "wait h at s when 1<2;".repeat(12);
-        right(waits + "haul h with 1;".repeat(12));
-        wrongAtMark(4, waits + "~wait h at s when 1<2;");
-        wrongAtMark(4, waits + "~wait x at x when 1<2;");
+        checks.right(waits + "haul h with 1;".repeat(12));
+        checks.wrongAtMark(4, waits + "~wait h at s when 1<2;");
+        checks.wrongAtMark(4, waits + "~wait x at x when 1<2;");
     }
 
     private static void outOfRange() {
         for (String number : new String[] {"~0", "~10", "~999999"}) {
-            wrongAtMark(5, "stretch a long " + number + " slope 0 frost 0;");
-            wrongAtMark(5, "horse a pull 1 links " + number + " iron 1;");
+            checks.wrongAtMark(5, "stretch a long " + number + " slope 0 frost 0;");
+            checks.wrongAtMark(5, "horse a pull 1 links " + number + " iron 1;");
         }
         for (String number : new String[] {"~10", "~100"}) {
-            wrongAtMark(5, "stretch a long 1 slope " + number + " frost 0;");
-            wrongAtMark(5, "stretch a long 1 slope - " + number + " frost 0;");
-            wrongAtMark(5, "stretch a long 1 slope 0 frost " + number + ";");
+            checks.wrongAtMark(5, "stretch a long 1 slope " + number + " frost 0;");
+            checks.wrongAtMark(5, "stretch a long 1 slope - " + number + " frost 0;");
+            checks.wrongAtMark(5, "stretch a long 1 slope 0 frost " + number + ";");
         }
         for (String number : new String[] {"~0", "~100"}) {
-            wrongAtMark(5, "horse a pull " + number + " links 1 iron 1;");
-            wrongAtMark(5, "horse a pull 1 links 1 iron " + number + ";");
+            checks.wrongAtMark(5, "horse a pull " + number + " links 1 iron 1;");
+            checks.wrongAtMark(5, "horse a pull 1 links 1 iron " + number + ";");
         }
-        wrongAtMark(5, "log a weight ~0;");
-        wrongAtMark(5, "log a weight ~61;");
+        checks.wrongAtMark(5, "log a weight ~0;");
+        checks.wrongAtMark(5, "log a weight ~61;");
     }
 
     private static void firstErrorIsTold() {
-        wrongAtMark(5, "log a weight ~0;log a weight 1;");
-        wrongAtMark(3, "haul ~h with load i;log a weight 0;");
-        wrongAtMark(2, "log a weight 1;log ~a weight 0;haul h with 1;");
-        wrongAtMark(5, "stretch a long 1 slope ~10 frost 10;");
+        checks.wrongAtMark(5, "log a weight ~0;log a weight 1;");
+        checks.wrongAtMark(3, "haul ~h with load i;log a weight 0;");
+        checks.wrongAtMark(2, "log a weight 1;log ~a weight 0;haul h with 1;");
+        checks.wrongAtMark(5, "stretch a long 1 slope ~10 frost 10;");
     }
 }
