@@ -16,6 +16,7 @@ public final class RoadBoundsTest {
         comparisons();
         andOrNot();
         atFirst();
+        unitsFrom0ToLengthLess1();
         withoutLinks();
         loadOnlyOnTheWayDown();
         needIsAtLeast0();
@@ -209,6 +210,24 @@ public final class RoadBoundsTest {
         x.pass(1);
         checks.facts(x, "with a test that does not hold", 0, -1, 0, 0, 0, 0);
         checks.due("the hour behind one", x.count(0), 1);
+    }
+
+    // ---- "some units of the stretch gone (0 to its length - 1)"
+
+    private static void unitsFrom0ToLengthLess1() {
+        for (int length = 1; length <= 9; length++) {
+            FjordHaul x = Checks.taught(Checks.road(length + " 0 0", STRONG, "log a weight 7", "haul h with 7"));
+            for (int units = 0; units < length; units++) {
+                x.pass(1);
+                checks.facts(x, "down " + length, 0, 0, 1, units, 7);
+            }
+            for (int units = 0; units < length; units++) {
+                checks.due("at the raft ahead of unit " + units, x.pass(1), units == 0 ? 7 : 0);
+                checks.facts(x, "back " + length, 0, 0, 0, units, 0);
+            }
+            x.pass(1);
+            checks.facts(x, "home", 0, -1, 0, 0, 0);
+        }
     }
 
     // ---- "Its chain has links; without any it hauls no more."
